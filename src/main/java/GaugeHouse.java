@@ -103,7 +103,7 @@ public final class GaugeHouse {
     public int header() {
         int n = tape.length;
         tape.wipe();
-        if (n == 0 || tape.bytes[0] == '*') return BAD;
+        if (n == 0) return BAD;
         scratch.path = -1;
         if (scratch.scanHeader(tape.bytes, 0, n) != n) return BAD;
         return table.find(scratch);
@@ -750,15 +750,6 @@ public final class GaugeHouse {
             }
             return (reach >> 5 * nodeCount + other.nodeCount & 1) != 0;
         }
-
-        /** The number of the WORD of a CHOICE that these bytes are, or -1. */
-        int chosen(int p, int[] s, int at, int n) {
-            for (int k = 0; k < 4; k++) {
-                Word w = choices[4 * p + k];
-                if (w != null && w.fits(s, at, n)) return k;
-            }
-            return -1;
-        }
     }
 
     /** THE TABLE: the COMMANDS of part 9, the OWN ones behind them, and the * ones apart. */
@@ -766,13 +757,16 @@ public final class GaugeHouse {
         final Command[] rows = new Command[BUILT + OWN_MOST];
         int size = 0;
         final Command[] stars = new Command[STARS];
-        final Word minimum = Word.of("MINimum");
-        final Word maximum = Word.of("MAXimum");
-        final Word standard = Word.of("DEFault");
-        final Word on = Word.of("ON");
-        final Word off = Word.of("OFF");
+        // by the values that they stand for: 0 and 1; the least, the greatest, the first one
+        final Word[] truths = new Word[2];
+        final Word[] standIns = new Word[3];
 
         Table() {
+            truths[0] = Word.of("OFF");
+            truths[1] = Word.of("ON");
+            standIns[0] = Word.of("MINimum");
+            standIns[1] = Word.of("MAXimum");
+            standIns[2] = Word.of("DEFault");
             buildTriggers();
             buildReadings();
             buildStatus();
@@ -915,7 +909,7 @@ public final class GaugeHouse {
                     c.forms = t.isSign('?') ? ASKED : TOLD;
                     t.step();
                 }
-                while (t.kind == Text.LETTERS && c.parameters < PARAMETER_MOST) readParameter(t, c);
+                for (int k = 0; k < PARAMETER_MOST && t.kind == Text.LETTERS; k++) readParameter(t, c);
                 if (!t.isSign(';')) t.refuse();
                 for (int k = 0; k < most; k++) {
                     Command other = rows[k];
@@ -929,7 +923,7 @@ public final class GaugeHouse {
         }
 
         private static void readNodes(Text t, Command c) {
-            while (t.isSign(':') || t.isSign('[')) {
+            for (int k = 0; k <= NODE_MOST && (t.isSign(':') || t.isSign('[')); k++) {
                 boolean optional = t.isSign('[');
                 if (c.nodeCount == NODE_MOST || optional && c.optionalCount == 2) t.refuse();
                 if (optional) t.step();
@@ -965,7 +959,7 @@ public final class GaugeHouse {
         private static void readChoice(Text t, Command c) {
             int words = 0;
             boolean more = true;
-            while (more) {
+            while (more && words <= 4) {
                 // the word choice, or the sign / behind a WORD
                 t.step();
                 if (words == 4) t.refuse();
@@ -1120,7 +1114,8 @@ public final class GaugeHouse {
         private static Statement readAll(Text t, int depth) {
             Statement first = null;
             Statement latest = null;
-            while (t.kind == Text.LETTERS && t.statements <= STATEMENT_MOST) {
+            // readOne refuses the one that is too many
+            for (int k = 0; k <= STATEMENT_MOST && t.kind == Text.LETTERS; k++) {
                 Statement s = readOne(t, depth);
                 if (latest == null) first = s;
                 else latest.next = s;
@@ -1247,6 +1242,7 @@ public final class GaugeHouse {
             unitPower = 0;
         }
 
+        /** Reads the sign and the digits of a NUMBER; its exponent and its UNIT are read behind them. */
         int readNumber(int[] s, int at, int end) {
             beginNumber();
             minus = s[at] == '-';
@@ -1259,9 +1255,7 @@ public final class GaugeHouse {
                 some = some || p > point;
             }
             if (p < 0) return p;
-            if (!some) return -121;
-            p = readExponent(s, p, end);
-            return p < 0 ? p : readUnit(s, p, end);
+            return some ? p : -121;
         }
 
         private int readDigits(int[] s, int at, int end, int powerOfEach) {
@@ -1277,7 +1271,7 @@ public final class GaugeHouse {
             return p;
         }
 
-        private int readExponent(int[] s, int at, int end) {
+        int readExponent(int[] s, int at, int end) {
             int p = skipWhite(s, at, end);
             if (p >= end || s[p] != 'E' && s[p] != 'e') return at;
             p = skipWhite(s, p + 1, end);
@@ -1296,7 +1290,7 @@ public final class GaugeHouse {
             return p == first ? -121 : p;
         }
 
-        private int readUnit(int[] s, int at, int end) {
+        int readUnit(int[] s, int at, int end) {
             int first = skipWhite(s, at, end);
             int p = first;
             while (p < end && isLetter(s[p])) p++;
@@ -1328,7 +1322,10 @@ public final class GaugeHouse {
             int p = at + 2;
             while (p < end) {
                 int b = s[p];
-                int d = b >= '0' && b <= '9' ? b - '0' : b >= 'A' && b <= 'F' ? b - 'A' + 10 : b >= 'a' && b <= 'f' ? b - 'a' + 10 : 99;
+                int d = 99;
+                if (b >= '0' && b <= '9') d = b - '0';
+                else if (b >= 'A' && b <= 'F') d = b - 'A' + 10;
+                else if (b >= 'a' && b <= 'f') d = b - 'a' + 10;
                 if (d >= base) break;
                 if (mantissa != 0 || d != 0) significant++;
                 if (significant > 12) return -124;
@@ -1387,31 +1384,30 @@ public final class GaugeHouse {
             channelCount = 0;
             int p = skipWhite(s, at + 1, end);
             if (p >= end || s[p] != '@') return -171;
+            int first = -1;
             boolean more = true;
-            while (more) {
-                p = readChannel(s, p + 1, end);
-                if (p < 0 || p >= end) return -171;
-                int first = channel;
-                if (s[p] == ':') {
-                    p = readChannel(s, p + 1, end);
-                    if (p < 0 || p >= end) return -171;
-                }
-                addChannels(first, channel);
-                more = s[p] == ',';
+            for (int turn = 0; more && turn <= end; turn++) {
+                p = readChannel(s, skipWhite(s, p + 1, end), end);
+                if (p < 0) return -171;
+                p = skipWhite(s, p, end);
+                if (p >= end || first >= 0 && s[p] == ':') return -171;
+                boolean begins = s[p] == ':';
+                if (!begins) addChannels(first < 0 ? channel : first, channel);
+                first = begins ? channel : -1;
+                more = begins || s[p] == ',';
             }
             return s[p] == ')' ? p + 1 : -171;
         }
 
-        /** Reads a number of a LIST, with the WHITE around it. */
+        /** Reads a number of a LIST. */
         private int readChannel(int[] s, int at, int end) {
-            int first = skipWhite(s, at, end);
-            int p = first;
+            int p = at;
             channel = 0;
-            while (p < end && isDigit(s[p]) && p - first < 3) {
+            while (p < end && s[p] >= '0' && s[p] <= '9' && p - at < 3) {
                 channel = 10 * channel + s[p] - '0';
                 p++;
             }
-            return p == first ? -171 : skipWhite(s, p, end);
+            return p == at ? -171 : p;
         }
 
         private void addChannels(int first, int last) {
@@ -1539,7 +1535,7 @@ public final class GaugeHouse {
             for (int k = 0; k < end; k++) s[k] = input.bytes[k] & 255;
             int p = skipWhite(s, 0, end);
             if (p >= end) return BLANK;
-            p = scanHeader(s, p, end);
+            p = s[p] == '*' ? scanStar(s, p + 1, end) : scanHeader(s, p, end);
             if (p < 0) return p;
             asked = p < end && s[p] == '?';
             if (asked) p++;
@@ -1547,11 +1543,15 @@ public final class GaugeHouse {
             p = skipWhite(s, p, end);
             dataCount = 0;
             boolean more = p < end;
-            while (more) {
+            for (int turn = 0; more && turn <= s.length; turn++) {
                 Datum d = data[Math.min(dataCount, PARAMETER_MOST)];
                 int sort = Datum.sortAt(s, p, end);
                 switch (sort) {
-                    case NUMBER: p = d.readNumber(s, p, end); break;
+                    case NUMBER:
+                        p = d.readNumber(s, p, end);
+                        if (p >= 0) p = d.readExponent(s, p, end);
+                        if (p >= 0) p = d.readUnit(s, p, end);
+                        break;
                     case BASED: p = d.readBased(s, p, end); break;
                     case WORD: p = d.readWord(s, p, end); break;
                     case STRING: p = d.readString(s, p, end); break;
@@ -1569,16 +1569,15 @@ public final class GaugeHouse {
             return 0;
         }
 
-        /** Reads a HEADER: the place behind it, or the ERROR. */
+        /** Reads a HEADER but a * one: the place behind it, or the ERROR. */
         int scanHeader(int[] from, int at, int end) {
             int p = at;
             star = -1;
-            if (p < end && from[p] == '*') return scanStar(from, p + 1, end);
             boolean root = p < end && from[p] == ':';
             if (root) p++;
             words = root || path < 0 ? 0 : path;
             boolean more = true;
-            while (more) {
+            for (int turn = 0; more && turn <= end; turn++) {
                 // a HEADER of more words than there are slots fits nothing, so they need not be kept
                 int slot = Math.min(words, SLOTS - 1);
                 int first = p;
@@ -1632,6 +1631,8 @@ public final class GaugeHouse {
             int sort = Datum.sortAt(b.bytes, at, b.length);
             int p = -1;
             if (sort == NUMBER) p = d.readNumber(b.bytes, at, b.length);
+            if (sort == NUMBER && p >= 0) p = d.readExponent(b.bytes, p, b.length);
+            if (sort == NUMBER && p >= 0) p = d.readUnit(b.bytes, p, b.length);
             if (sort == BASED) p = d.readBased(b.bytes, at, b.length);
             if (p < 0 || skipWhite(b.bytes, p, b.length) != b.length || d.unitPower == Datum.NO_SUCH_UNIT) return 0;
             return Math.max(-MOST_AMOUNT, Math.min(MOST_AMOUNT, d.rounded(3 + d.unitPower)));
@@ -1936,10 +1937,10 @@ public final class GaugeHouse {
         }
 
         void abort() {
-            layer = IDLE;
             idled = true;
-            woken = false;
-            if (set[CONTINUOUS] == 1) arm();
+            woken = set[CONTINUOUS] == 1;
+            layer = woken ? ARM_LAYER : IDLE;
+            armPassed = 0;
         }
 
         private void passArm() {
@@ -2099,7 +2100,7 @@ public final class GaugeHouse {
     private static final class Instrument {
         // what HOLDS: OUTPUT an answer, what is PENDING a UNIT, OUTPUT the 10 behind a MESSAGE
         private static final int FREE = 0, FOR_ROOM = 1, FOR_PENDING = 2, FOR_END = 3;
-        // how a UNIT can end beside 0, an ERROR and BLANK
+        // what doing a UNIT answers beside 0 and an ERROR
         private static final int PENDS = 1;
         // far above what 80 bytes of INPUT can need
         private static final int TURNS = 1000;
@@ -2355,23 +2356,16 @@ public final class GaugeHouse {
                 return 0;
             }
             if (d.sort != WORD || !c.standIns) return -104;
-            return wordError(c, p, d);
-        }
-
-        private int wordError(Command c, int p, Datum d) {
-            int[] s = unit.s;
-            if (c.sorts[p] == CHOICE) {
-                given[p] = c.chosen(p, s, d.from, d.length);
-                return given[p] < 0 ? -141 : 0;
+            Word[] words = sort == CHOICE ? c.choices : sort == TRUTH ? table.truths : table.standIns;
+            int at = sort == CHOICE ? 4 * p : 0;
+            int found = -1;
+            for (int k = 0; k < 4 && at + k < words.length && found < 0; k++) {
+                Word w = words[at + k];
+                if (w != null && w.fits(unit.s, d.from, d.length)) found = k;
             }
-            if (c.sorts[p] == TRUTH) {
-                given[p] = table.on.fits(s, d.from, d.length) ? 1 : 0;
-                return given[p] == 1 || table.off.fits(s, d.from, d.length) ? 0 : -141;
-            }
-            if (table.minimum.fits(s, d.from, d.length)) given[p] = c.least[p];
-            else if (table.maximum.fits(s, d.from, d.length)) given[p] = c.greatest[p];
-            else if (table.standard.fits(s, d.from, d.length)) given[p] = c.first[p];
-            else return -141;
+            if (found < 0) return -141;
+            boolean ranges = sort == WHOLE || sort == REAL;
+            given[p] = !ranges ? found : found == 0 ? c.least[p] : found == 1 ? c.greatest[p] : c.first[p];
             return 0;
         }
 
@@ -2531,7 +2525,11 @@ public final class GaugeHouse {
                 case TRG:
                     return meter.event() ? 0 : -211;
                 case RST:
-                    reset();
+                    table.setFirst(set, false);
+                    shown.wipe();
+                    meter.closed = 0;
+                    meter.abort();
+                    status.completeWanted = false;
                     return 0;
                 case SAV:
                     save(n);
@@ -2539,14 +2537,6 @@ public final class GaugeHouse {
                 default:
                     return recall(n);
             }
-        }
-
-        private void reset() {
-            table.setFirst(set, false);
-            shown.wipe();
-            meter.closed = 0;
-            meter.abort();
-            status.completeWanted = false;
         }
 
         private void save(int n) {
