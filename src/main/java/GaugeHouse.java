@@ -104,7 +104,6 @@ public final class GaugeHouse {
         int n = tape.length;
         tape.wipe();
         if (n == 0) return BAD;
-        scratch.path = -1;
         if (scratch.scanHeader(tape.bytes, 0, n) != n) return BAD;
         return table.find(scratch);
     }
@@ -2296,10 +2295,7 @@ public final class GaugeHouse {
                 unitsDone++;
                 status.look(meter.pending(), output.length > 0);
             }
-            if (end) {
-                passing = false;
-                endMessage();
-            }
+            if (end) endMessage();
         }
 
         /** Passes bytes over: whether the MESSAGE ended. */
@@ -2309,7 +2305,6 @@ public final class GaugeHouse {
                 if (b != 10 && b < END_TOLD) continue;
                 unit.scanned = k + 1;
                 unit.drop();
-                passing = false;
                 endMessage();
                 return true;
             }

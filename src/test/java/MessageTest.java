@@ -169,6 +169,11 @@ public final class MessageTest {
         value("A3 Def,LOW", 37, 3, 0, 7);
         value("A2 #h1F,LOW", 37, 2, 0, 31);
         value("A2 #q17,LOW", 37, 2, 0, 15);
+        value("A2 #H9,LOW", 37, 2, 0, 9);
+        value("A2 #H0f,LOW", 37, 2, 0, 15);
+        value("A2 #HaF,LOW", 37, 2, 0, 15);
+        error("A2 1X,LOW", "-131");
+        value("A2 #HA,LOW", 37, 2, 0, 10);
         value("A2 #B101,LOW", 37, 2, 0, 5);
         value("A2 123456789012E-10,LOW", 37, 2, 0, 12);
         value("A2 0.000000000000000000000001E25,LOW", 37, 2, 0, 10);

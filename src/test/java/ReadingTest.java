@@ -193,6 +193,7 @@ public final class ReadingTest {
         Bench.due("not joined", read(b), NAN);
         Bench.due("bits", b.house.about(0, 9), 1 << 7);
         b.tell(0, "ROUT:CLOS (@8)");
+        Bench.due("the last channel", read(b), bits(0.2 / 0.0001, 0.0001, 0));
         Bench.due("one of a half", b.house.about(0, 9), 1 << 8);
         b.tell(0, "ROUT:CLOS (@4:1)");
         Bench.due("falling", b.house.about(0, 9), 1 << 8 | 1 << 1);

@@ -74,6 +74,9 @@ public final class ScriptTest {
         Bench.due("60 STATEMENTS", new Bench().test(sixty), 0);
         fault(sixty + " wait 1;", 421);
         fault("repeat 1{" + "wait 1;".repeat(59) + "raise 5;}", 9 + 59 * 7);
+        Bench two = new Bench();
+        two.test(sixty);
+        Bench.due("60 more", two.test(sixty), 1);
         Bench.due("8 blocks", new Bench().test("repeat 1{".repeat(8) + "}".repeat(8)), 0);
         fault("repeat 1{".repeat(9) + "}".repeat(9), 8 * 9 + 8);
         Bench.due("side by side", new Bench().test("try{".repeat(8) + "}last{}".repeat(7) + "}fail 0{try{}}"), 0);

@@ -102,6 +102,8 @@ public final class StatusTest {
         Bench.due("what goes on at once is not looked at", b.house.register(0, 0, 3), 0);
         b.tell(0, "ABOR");
         Bench.due("IDLE is", b.house.register(0, 0, 3), 16);
+        b.tell(0, "*CLS;:INIT;*ESE 0;*ESE 0");
+        Bench.due("just once", b.house.register(0, 0, 3), 0);
         b.tell(0, "*CLS;:INIT:CONT ON;:ABOR");
         Bench.due("CONDITION", b.house.register(0, 0, 0), 16);
         Bench.due("IDLE is looked at ahead", b.house.register(0, 0, 3), 16);
@@ -123,11 +125,16 @@ public final class StatusTest {
         b.house.tick(1);
         Bench.due("CONDITION", b.house.register(0, 1, 0), 513);
         Bench.due("EVENT", b.house.register(0, 1, 3), 512);
+        b.tell(0, "*CLS");
+        Bench.due("none", b.house.register(0, 1, 3), 0);
+        b.tell(0, "INIT");
+        b.house.tick(1);
+        Bench.due("nothing came", b.house.register(0, 1, 3), 0);
         b.house.signal(0, 0, 0, 0, 1);
         b.tell(0, "INIT");
         b.house.tick(1);
         Bench.due("CONDITION", b.house.register(0, 1, 0), 0);
-        Bench.due("EVENT", b.ask(0, "STAT:QUES:COND?;:STAT:QUES?;QUES:EVEN?"), "0;513;0\n");
+        Bench.due("EVENT", b.ask(0, "STAT:QUES:COND?;:STAT:QUES?;QUES:EVEN?"), "0;1;0\n");
     }
 
     private static void statusByte() {
@@ -212,6 +219,16 @@ public final class StatusTest {
         b.house.poll(0);
         b.tell(0, "FOO");
         Bench.due("one goes, another comes", b.house.poll(0), 68);
+        Bench c = Bench.with(0);
+        c.tell(0, "*SRE 16;*TST?");
+        c.house.poll(0);
+        c.tell(0, "*TST?");
+        Bench.due("looked at behind each byte", c.house.poll(0), 84);
+        c.house.take(0);
+        c.tell(0, "*CLS;*SRE 4;FOO");
+        c.house.poll(0);
+        c.tell(0, "SYST:ERR?;*FOO");
+        Bench.due("looked at behind each UNIT", c.house.poll(0), 84);
     }
 
     private static void complete() {

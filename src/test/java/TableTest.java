@@ -73,6 +73,7 @@ public final class TableTest {
         Bench.due("X:Y", b.header("X:Y"), 38);
         Bench.due("X", b.header("X"), -5);
         Bench.due("more behind", b.own(":LONGword:ABCDefghijkl:C:D;"), 40);
+        Bench.due("Z", new Bench().own(":ZAz choice AZ/Zz;"), 38);
         Bench.due("four NODES", b.header("LONG:ABCDEFGHIJKL:C:D"), 39);
         Bench.due("a SUFFIX where one reading has it", b.own("[:P]:P#2[:P];"), 41);
         Bench.due("P2", b.header("P2"), 40);
