@@ -221,6 +221,15 @@ public final class ExchangeTest {
         Bench.due("no more", b.take(0), "0\n");
         b.tell(0, "INIT:CONT ON;*WAI;*OPC?");
         Bench.due("CONTINUOUS is not PENDING", b.take(0), "1\n");
+        Bench s = Bench.with(2);
+        s.tell(0, "ARM:SOUR BUS;:INIT;*WAI;FOO;TRAC:DATA #15a\n*ESE 5\n*ESE?\n");
+        Bench.due("*WAI is HELD", s.house.about(0, 6), 2);
+        s.house.trigger(0);
+        s.house.tick(1);
+        Bench.due("passed over up to the first 10, and no farther", s.take(0), "5\n");
+        s.tell(0, "INIT;:ROUT:CLOS (@1);OPEN (@1);:DISP:TEXT 'a';:STAT:PRES;*CLS;*ESE 1;*SRE 0;*OPC;*SAV 0;:RANG 1;:ROUT:CLOS? (@1);*ESR?;*TST?;*SRE?");
+        Bench.due("nothing else is HELD", s.take(0), "0;0;0;0\n");
+        Bench.due("PENDING", s.house.about(0, 5), 1);
         b.tell(0, "READ?");
         Bench.due("READ? then", b.house.error(0, 0), -221);
         b.tell(0, "INIT");
@@ -312,5 +321,8 @@ public final class ExchangeTest {
         b.part(0, "FOO;");
         b.house.clear(0);
         Bench.due("nothing is passed over", b.ask(0, "*ESE?"), "0\n");
+        b.part(0, "DISP:TEXT 'a");
+        b.house.clear(0);
+        Bench.due("no STRING goes on", b.ask(0, "*ESE 5;*ESE?"), "5\n");
     }
 }

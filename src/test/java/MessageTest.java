@@ -38,6 +38,7 @@ public final class MessageTest {
         error(" \t\0\u0008I\u000b ", "");
         error(";; ; ;", "");
         error("I ", "");
+        error("I\0", "");
     }
 
     private static void numbers() {
@@ -89,7 +90,7 @@ public final class MessageTest {
         error("I #213a;\nb;\nc;\nd;\ne;, 5 ", "-108");
         error("I #0", "-108");
         error("I #0abc;\ndef\n", "-108");
-        String[] lists = {"(", "(1)", "(@", "(@)", "(@1", "(@1,", "(@1,)", "(@,1)", "(@1:", "(@1:)", "(@1:2:3)", "(@1 2)", "(@1234)", "(@-1)", "(@1;2)",
+        String[] lists = {"(", "(1)", "(@", "(@)", "(@1", "(@1,", "(@1,)", "(@,1)", "(@1:", "(@1:)", "(@1:2:3)", "(@0:1:2)", "(@1 2)", "(@1234)", "(@-1)", "(@1;2)",
             "(@a)", "(@1.2)"};
         for (String s : lists) error("I " + s, "-171");
         error("I (@1)", "-108");
@@ -172,6 +173,9 @@ public final class MessageTest {
         value("A2 #H9,LOW", 37, 2, 0, 9);
         value("A2 #H0f,LOW", 37, 2, 0, 15);
         value("A2 #HaF,LOW", 37, 2, 0, 15);
+        value("A2 #Ha,LOW", 37, 2, 0, 10);
+        value("A2 -5,LOW", 37, 2, 0, -5);
+        value("A2 #H5,LOW", 37, 2, 0, 5);
         error("A2 1X,LOW", "-131");
         value("A2 #HA,LOW", 37, 2, 0, 10);
         value("A2 #B101,LOW", 37, 2, 0, 5);

@@ -34,6 +34,7 @@ public final class ReadingTest {
             {0, 0, 0, 1000000001, 1}, {0, 0, 0, -1000000001, 1}, {0, 0, 0, 0, 0}, {0, 0, 0, 0, 1001}, {0, 3, 0, 0, 0}};
         for (int[] s : bad) Bench.due("signal", b.house.signal(s[0], s[1], s[2], s[3], s[4]), -1);
         Bench.due("signal", b.house.signal(5, 4, 1000000000, -1000000000, 1000), 1);
+        Bench.due("signal", b.house.signal(0, 0, -1000000000, 1000000000, 1), 1);
         int[][] wires = {{0, 0, 0}, {3, 0, 0}, {-1, 0, 0}, {1, 1, 0}, {1, -1, 0}, {1, 0, 6}, {1, 0, -2}, {2, 0, 0}, {2, 9, 0}, {2, -1, 0}};
         for (int[] w : wires) Bench.due("wire", b.house.wire(w[0], w[1], w[2]), -1);
         Bench.due("wire", b.house.wire(1, 0, 5), -1);

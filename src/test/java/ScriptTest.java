@@ -152,6 +152,8 @@ public final class ScriptTest {
         Bench c = Bench.with(0);
         run(c, "send 0 'FOO';send 0 'FOO';check 0;", 9);
         Bench.due("they are gone", c.house.about(0, 3), 0);
+        Bench.due("run", run(c, "send 0 '*SRE 4;FOO';try{check 0;}fail 4{}", 9), "0: 3 1 0 0");
+        Bench.due("looked at behind the call", c.house.service(), 0);
         Bench.due("UNTERMINATED", run(c, "ask 0 '*CLS';", 9), "102: 1 1 0 0");
         Bench.due("its ERROR", c.house.error(0, 0), -420);
     }
@@ -177,6 +179,9 @@ public final class ScriptTest {
         runs("try{raise 5;}fail 5{wait 1;}last{wait 1;}", 2, "99: 2 1 0 0");
         runs("try{wait 1;}last{wait 1;}", 2, "99: 2 0 1 0");
         runs("repeat 9{repeat 9{repeat 9{wait 1;}}}", 100, "99: 100 0 0 0");
+        runs("repeat 1{".repeat(8) + "wait 1;" + "}".repeat(8), 100, "0: 9 0 0 0");
+        runs("try{".repeat(8) + "raise 5;" + "}last{}".repeat(8), 100, "105: 9 1 8 0");
+        runs("try{raise 5;}fail 5{".repeat(8) + "wait 1;" + "}".repeat(8), 100, "0: 17 8 0 0");
     }
 
     private static void answers() {

@@ -224,6 +224,11 @@ public final class StatusTest {
         c.house.poll(0);
         c.tell(0, "*TST?");
         Bench.due("looked at behind each byte", c.house.poll(0), 84);
+        Bench d = Bench.with(0);
+        d.tell(0, "*SRE 20;FOO");
+        d.house.poll(0);
+        d.tell(0, "*ESE 0");
+        Bench.due("nothing came", d.house.poll(0), 4);
         c.house.take(0);
         c.tell(0, "*CLS;*SRE 4;FOO");
         c.house.poll(0);

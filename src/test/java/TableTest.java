@@ -64,6 +64,7 @@ public final class TableTest {
         Bench.due("A:C", b.header("A:C"), 37);
         Bench.due("aa:cc4", b.header("aa:cc4"), 37);
         Bench.due("AA:BB:C04", b.header(":AA:BB:C04"), 37);
+        Bench.due("A:C1", b.header("A:C1"), 37);
         Bench.due("A:C0", b.header("A:C0"), -6);
         Bench.due("A:C00", b.header("A:C00"), -6);
         Bench.due("A:C5", b.header("A:C5"), -6);
@@ -73,7 +74,9 @@ public final class TableTest {
         Bench.due("X:Y", b.header("X:Y"), 38);
         Bench.due("X", b.header("X"), -5);
         Bench.due("more behind", b.own(":LONGword:ABCDefghijkl:C:D;"), 40);
-        Bench.due("Z", new Bench().own(":ZAz choice AZ/Zz;"), 38);
+        Bench z = new Bench();
+        Bench.due("Z", z.own(":ZAz choice AZ/Zz;"), 38);
+        Bench.due("zaz", z.header("zaz"), 37);
         Bench.due("four NODES", b.header("LONG:ABCDEFGHIJKL:C:D"), 39);
         Bench.due("a SUFFIX where one reading has it", b.own("[:P]:P#2[:P];"), 41);
         Bench.due("P2", b.header("P2"), 40);
@@ -174,6 +177,14 @@ public final class TableTest {
         Bench.due("one more", b.own(" :Z;"), -11);
         Bench.due("none more", b.own("  "), 57);
         Bench.due("they are there", b.header("T"), 56);
+        Bench all = new Bench();
+        all.own(twenty.toString().replace(";", "#4 whole 0 9 0 whole 0 9 0;"));
+        all.house.instrument(0);
+        for (int k = 0; k < 160; k++) all.tell(0, (char) ('A' + k / 8) + "" + (1 + k / 2 % 4) + " " + k % 7 + "," + k % 5);
+        for (int k = 0; k < 80; k++) {
+            Bench.due("PARAMETER 0 of " + k, all.house.setting(0, 37 + k / 4, 1 + k % 4, 0), (2 * k + 1) % 7);
+            Bench.due("PARAMETER 1 of " + k, all.house.setting(0, 37 + k / 4, 1 + k % 4, 1), (2 * k + 1) % 5);
+        }
         Bench.due("command(57, 0)", b.house.command(57, 0), -1);
     }
 

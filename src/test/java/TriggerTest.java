@@ -138,6 +138,12 @@ public final class TriggerTest {
         b.tell(0, "*RST");
         layer(b, 0);
         Bench.due("INIT:CONT?", b.ask(0, "INIT:CONT?"), "0\n");
+        Bench c = Bench.with(1);
+        c.tell(0, "ARM:COUN 3;:INIT:CONT ON");
+        c.house.tick(2);
+        c.tell(0, "ABOR;:INIT:CONT OFF");
+        c.house.tick(9);
+        made(c, 5);
     }
 
     private static void busEvents() {
