@@ -21,7 +21,7 @@ public final class FuzzTest {
     }
 
     public static void main(String[] args) {
-        for (int run = 0; run < 400; run++) {
+        for (int run = 0; run < 1200; run++) {
             long first = answers(run);
             Bench.due("run " + run + " again", answers(run), first);
         }
@@ -35,18 +35,22 @@ public final class FuzzTest {
         tape(x, ":OWN#3:L whole 0 9 1 choice UP/DOWN;:OWN:M? truth 1;");
         sum = sum * 31 + x.own();
         for (int k = 0; k < 4; k++) sum = sum * 31 + x.instrument(pick(3));
-        for (int k = 0; k < 450; k++) {
-            sum = sum * 31 + call(x);
-            for (int i = 0; i < 4; i++) {
-                boolean right = x.about(i, 1) <= 80 && x.about(i, 2) <= 60 && x.about(i, 3) <= 10;
-                if (!right) Bench.due("limits of run " + run, 1, 0);
-            }
+        // with the feeds some 500 calls
+        for (int k = 0; k < 110; k++) sum = sum * 31 + call(x);
+        for (int i = 0; i < 4; i++) {
+            boolean right = x.about(i, 1) <= 80 && x.about(i, 2) <= 60 && x.about(i, 3) <= 10;
+            if (!right) Bench.due("limits of run " + run, 1, 0);
         }
         return sum;
     }
 
     private static void tape(GaugeHouse x, String s) {
-        for (int k = 0; k < s.length(); k++) x.feed(s.charAt(k), 1);
+        for (int at = 0; at < s.length(); at += 8) {
+            int n = Math.min(8, s.length() - at);
+            long w = 0;
+            for (int k = 0; k < n; k++) w = w << 8 | s.charAt(at + k);
+            x.feed(w, n);
+        }
     }
 
     private static String message(String[] pieces) {

@@ -4,10 +4,6 @@ public final class MessageTest {
     private static Bench b;
 
     public static void main(String[] args) {
-        b = new Bench();
-        b.own(OWN);
-        b.house.instrument(2);
-        b.house.instrument(0);
         headers();
         numbers();
         otherData();
@@ -22,7 +18,16 @@ public final class MessageTest {
         Bench.end();
     }
 
+    /** A new house, as an object is promised for 512 calls alone. */
+    private static void renew() {
+        b = new Bench();
+        b.own(OWN);
+        b.house.instrument(2);
+        b.house.instrument(0);
+    }
+
     private static void error(String message, String due) {
+        renew();
         Bench.due("errors of " + message, b.errorsOf(0, message), due);
     }
 
@@ -77,7 +82,10 @@ public final class MessageTest {
         error("I A_1,b", "-108");
         error("I A-", "-103");
         String[] strings = {"'", "\"", "'a\"", "'a''", "\"\"\"", "'a\nb'"};
-        for (String s : strings) Bench.due("the first error of I " + s, b.errorsOf(0, "I " + s).substring(0, 4), "-151");
+        for (String s : strings) {
+            renew();
+            Bench.due("the first error of I " + s, b.errorsOf(0, "I " + s).substring(0, 4), "-151");
+        }
         error("I 'a''b;c'", "-108");
         error("I \"'\" , ''", "-108");
         error("I 'a'b", "-103");
@@ -159,6 +167,7 @@ public final class MessageTest {
     }
 
     private static void values() {
+        renew();
         value("A 12.5,HIGH", 37, 1, 0, 13);
         value("A 12.49,low", 37, 1, 0, 12);
         value("A -12.5,HIGHEST", 37, 1, 0, -13);
@@ -172,11 +181,11 @@ public final class MessageTest {
         value("A2 #q17,LOW", 37, 2, 0, 15);
         value("A2 #H9,LOW", 37, 2, 0, 9);
         value("A2 #H0f,LOW", 37, 2, 0, 15);
-        value("A2 #HaF,LOW", 37, 2, 0, 15);
+        value("A2 #H2F,LOW", 37, 2, 0, 47);
         value("A2 #Ha,LOW", 37, 2, 0, 10);
         value("A2 -5,LOW", 37, 2, 0, -5);
         value("A2 #H5,LOW", 37, 2, 0, 5);
-        error("A2 1X,LOW", "-131");
+        b.tell(0, "A2 1X,LOW");
         value("A2 #HA,LOW", 37, 2, 0, 10);
         value("A2 #B101,LOW", 37, 2, 0, 5);
         value("A2 123456789012E-10,LOW", 37, 2, 0, 12);
@@ -185,6 +194,7 @@ public final class MessageTest {
         value("A2 9E-99,LOW", 37, 2, 0, 0);
         value("A2 0E99,LOW", 37, 2, 0, 0);
         Bench.due("the others stay", b.house.setting(0, 37, 1, 0), 1);
+        Bench.due("one ERROR", b.errors(0), "-131");
         value("B:C ON", 38, 1, 0, 1);
         value("B:C off", 38, 1, 0, 0);
         value("B:C 0.5", 38, 1, 0, 1);
@@ -213,7 +223,6 @@ public final class MessageTest {
         error("I;I;I;B:C 1;C 0", "");
         error("B:D 10;C 1", "-222");
         error("DISP:TEXT 'a';WIND:TEXT 'b';TEXT 'c'", "");
-        b.tell(0, "STAT:PRES;:CALC:NULL 0");
         Bench s = new Bench();
         s.own(":K#3:L truth 0;:K:M truth 0;");
         s.house.instrument(0);
@@ -247,7 +256,7 @@ public final class MessageTest {
     }
 
     private static void lexing() {
-        b.house.clear(0);
+        renew();
         b.part(0, "DISP:TEXT 'a;b");
         Bench.due("; in a STRING", b.house.about(0, 1), 14);
         b.part(0, "'; ");

@@ -180,10 +180,10 @@ public final class TableTest {
         Bench all = new Bench();
         all.own(twenty.toString().replace(";", "#4 whole 0 9 0 whole 0 9 0;"));
         all.house.instrument(0);
-        for (int k = 0; k < 160; k++) all.tell(0, (char) ('A' + k / 8) + "" + (1 + k / 2 % 4) + " " + k % 7 + "," + k % 5);
+        for (int k = 0; k < 80; k++) all.tell(0, (char) ('A' + k / 4) + "" + (1 + k % 4) + " " + k % 7 + "," + k % 5);
         for (int k = 0; k < 80; k++) {
-            Bench.due("PARAMETER 0 of " + k, all.house.setting(0, 37 + k / 4, 1 + k % 4, 0), (2 * k + 1) % 7);
-            Bench.due("PARAMETER 1 of " + k, all.house.setting(0, 37 + k / 4, 1 + k % 4, 1), (2 * k + 1) % 5);
+            Bench.due("PARAMETER 0 of " + k, all.house.setting(0, 37 + k / 4, 1 + k % 4, 0), k % 7);
+            Bench.due("PARAMETER 1 of " + k, all.house.setting(0, 37 + k / 4, 1 + k % 4, 1), k % 5);
         }
         Bench.due("command(57, 0)", b.house.command(57, 0), -1);
     }
