@@ -798,7 +798,7 @@ public final class GaugeHouse {
             build(":CALCulate:LIMit:STATe", BOTH, METER).with(TRUTH, 0, 1, 0);
             build(":CALCulate:LIMit:FAIL", ASKED, METER);
             build(":TRACe:FEED", BOTH, METER).with(TRUTH, 0, 1, 0);
-            build(":TRACe:DATA", BOTH, METER).with(BLOCK, 0, 0, 0);
+            build(":TRACe:DATA", TOLD, METER).with(BLOCK, 0, 0, 0);
             build(":ROUTe:CLOSe", BOTH, SCANNER).with(LIST, 0, 0, 0);
             build(":ROUTe:OPEN", TOLD, SCANNER).with(LIST, 0, 0, 0);
             build(":DISPlay[:WINDow]:TEXT", BOTH, PLAIN).with(STRING, 0, 0, 0);

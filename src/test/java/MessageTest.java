@@ -125,13 +125,17 @@ public final class MessageTest {
         Bench m = Bench.with(1);
         Bench.due("a SCANNER's of a METER", m.errorsOf(0, "ROUT:OPEN (@1)"), "-113");
         Bench.due("a METER's of a METER", m.errorsOf(0, "INIT"), "");
+        Bench.due("a BLOCK cannot be ASKED", m.errorsOf(0, "TRAC:DATA?"), "-113");
+        Bench.due("nor with data", m.errorsOf(0, "TRAC:DATA? #11a"), "-113");
+        Bench.due("nor behind *IDN?", m.errorsOf(0, "*IDN?;TRAC:DATA?"), "-113");
+        Bench.due("nor with a SUFFIX", m.errorsOf(0, "TRAC:DATA1?"), "-114");
     }
 
     private static void counts() {
         String[] few = {"A", "A 1", "B:C", "RANG", "*ESE", "*SAV", "ROUT:CLOS", "ROUT:CLOS?", "ROUT:OPEN", "DISP:TEXT", "TRAC:DATA"};
         for (String s : few) error(s, "-109");
         String[] many = {"A 1,LOW,3", "G 1", "I? MAX", "A? MAX", "B:C? MAX", "B:D? MAX,MAX", "J? MAX", "*ESE 1,2", "*ESE? MAX", "*CLS 1", "*IDN? 1",
-            "ROUT:CLOS? (@1),(@2)", "FETC? 1", "DISP:TEXT? 'a'", "TRAC:DATA? #11a", "SYST:ERR? 1", "ARM:SOUR? MAX", "INIT:CONT? MAX"};
+            "ROUT:CLOS? (@1),(@2)", "FETC? 1", "DISP:TEXT? 'a'", "SYST:ERR? 1", "ARM:SOUR? MAX", "INIT:CONT? MAX"};
         for (String s : many) error(s, "-108");
     }
 

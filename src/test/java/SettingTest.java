@@ -90,7 +90,6 @@ public final class SettingTest {
     private static void stars() {
         Bench b = Bench.with(1);
         Bench.due("asked", b.ask(0, "*ese 7.5;*ESE?;*Sre 3;*SRE?;*tst?;*OPC?"), "8;3;0;1\n");
-        Bench.due("TRACe:DATA?", b.ask(0, "TRAC:DATA?"), "0\n");
         b.tell(0, "*RST;*CLS;*SAV 2;*RCL 2;*OPC;*WAI");
         Bench.due("no ERRORS", b.house.about(0, 3), 0);
     }

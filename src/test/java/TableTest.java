@@ -19,7 +19,7 @@ public final class TableTest {
             "STAT:OPER:ENAB", "STAT:OPER:PTR", "STAT:OPER:NTR", "STAT:QUES", "STAT:QUES:COND", "STAT:QUES:ENAB",
             "STAT:QUES:PTR", "STAT:QUES:NTR", "STAT:PRES", "SYST:ERR", "SYST:ERR:COUN"};
         int[] nodes = {2, 2, 1, 2, 2, 2, 2, 2, 2, 1, 1, 2, 3, 2, 2, 3, 3, 3, 3, 2, 2, 2, 2, 3, 3, 3, 3, 3, 3, 3, 3, 3, 3, 3, 2, 3, 3};
-        int[] forms = {1, 3, 1, 3, 3, 3, 3, 3, 3, 2, 2, 3, 3, 3, 3, 3, 3, 3, 2, 3, 3, 3, 1, 3, 2, 2, 3, 3, 3, 2, 2, 3, 3, 3, 1, 2, 2};
+        int[] forms = {1, 3, 1, 3, 3, 3, 3, 3, 3, 2, 2, 3, 3, 3, 3, 3, 3, 3, 2, 3, 1, 3, 1, 3, 2, 2, 3, 3, 3, 2, 2, 3, 3, 3, 1, 2, 2};
         int[] parameters = {0, 1, 0, 1, 1, 1, 1, 1, 1, 0, 0, 1, 1, 1, 1, 1, 1, 1, 0, 1, 1, 1, 1, 1, 0, 0, 1, 1, 1, 0, 0, 1, 1, 1, 0, 0, 0};
         Bench b = new Bench();
         for (int c = 0; c < 37; c++) {
