@@ -2147,16 +2147,17 @@ public final class GaugeHouse {
         /** Bytes are sent: how many came. */
         int receive(int[] s, int n, boolean end, int time) {
             for (int k = 0; k < n && k < s.length; k++) {
-                if (!begun && hold == FREE && output.length > 0) {
-                    status.fail(-410);
-                    output.wipe();
-                }
                 for (int turn = 0; turn < TURNS && unit.input.space() == 0 && hold != FOR_PENDING; turn++) {
                     if (hold == FREE) overflow();
                     else deadlock();
                     proceed(time);
                 }
                 if (unit.input.space() == 0) return k;
+                // looked at behind the making of room, by which the MESSAGES before may have been done
+                if (!begun && hold == FREE && output.length > 0) {
+                    status.fail(-410);
+                    output.wipe();
+                }
                 begun = true;
                 unit.input.add(end && k == n - 1 ? s[k] | END_TOLD : s[k]);
                 proceed(time);

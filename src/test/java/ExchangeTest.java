@@ -9,6 +9,7 @@ public final class ExchangeTest {
         heldByOutput();
         deadlocked();
         deadlockedEnd();
+        interruptedBehindDeadlock();
         heldByPending();
         overflow();
         noRoomWhilePending();
@@ -195,6 +196,19 @@ public final class ExchangeTest {
         Bench.due("still no INTERRUPTED", b.house.about(0, 3), 0);
         Bench.due("the next one HOLDS", b.house.about(0, 6), 1);
         Bench.due("all answers", b.take(0), "0;" + zeros(29) + "\n0\n");
+    }
+
+    private static void interruptedBehindDeadlock() {
+        Bench b = Bench.with(0);
+        b.tell(0, "*ESE 10;*ESE?;" + tests(29));
+        Bench.due("80 bytes of a whole MESSAGE", b.part(0, " ".repeat(74) + "*TST?\n"), 80);
+        Bench.due("the 10 HOLDS", b.house.about(0, 6), 1);
+        Bench.due("another byte", b.part(0, "*"), 1);
+        Bench.due("DEADLOCKED", b.house.error(0, 0), -430);
+        Bench.due("INTERRUPTED, as all before is done then", b.house.error(0, 1), -410);
+        Bench.due("no other", b.house.about(0, 3), 2);
+        Bench.due("OUTPUT", b.house.about(0, 2), 0);
+        Bench.due("INPUT", b.house.about(0, 1), 1);
     }
 
     private static void heldByPending() {
