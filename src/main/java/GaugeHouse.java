@@ -979,7 +979,7 @@ public final class GaugeHouse {
 
     /** The TOKENS of a text of OWN COMMANDS or of a TEST. */
     private static final class Text {
-        static final int END = 0, LETTERS = 1, DIGITS = 2, QUOTED = 3, UNCLOSED = 4, SIGN = 5, NOTHING = 6;
+        static final int END = 0, LETTERS = 1, DIGITS = 2, QUOTED = 3, SIGN = 4, NOTHING = 5;
         int[] bytes = new int[1];
         int length = 0;
         // the TOKEN that is looked at; where a text is refused, start is the place of its FAULT
@@ -1009,14 +1009,19 @@ public final class GaugeHouse {
             } else if (isDigit(bytes[start])) {
                 stepDigits();
             } else if (bytes[start] == '\'') {
-                end++;
-                while (end < length && bytes[end] != '\'') end++;
-                kind = end < length ? QUOTED : UNCLOSED;
-                if (end < length) end++;
+                stepQuoted();
             } else {
                 end++;
                 kind = SIGN;
             }
+        }
+
+        /** A ' that no other one follows begins no TOKEN. */
+        private void stepQuoted() {
+            end++;
+            while (end < length && bytes[end] != '\'') end++;
+            kind = end < length ? QUOTED : NOTHING;
+            if (end < length) end++;
         }
 
         private void stepDigits() {
@@ -1073,8 +1078,6 @@ public final class GaugeHouse {
 
         /** The bytes of a STRING. */
         int[] needString() {
-            // all that an unclosed one lacks would come behind the text
-            if (kind == UNCLOSED) start = length;
             if (kind != QUOTED) refuse();
             int[] inside = new int[Math.max(0, end - start - 2)];
             System.arraycopy(bytes, start + 1, inside, 0, inside.length);

@@ -34,7 +34,12 @@ public final class ScriptTest {
         fault("send 0 a;", 7);
         fault("send 0 \"a\";", 7);
         fault("send 0 'a'", 10);
-        fault("send 0 'a", 9);
+        fault("send 0 'a", 7);
+        fault("send 0 '", 7);
+        fault("ask 0 'a'; send 0 'b; wait 1;\n", 18);
+        fault("repeat 3{ask 0 '", 15);
+        fault("send 0 'a''", 10);
+        fault("send 0 ", 7);
         fault("send 0 'a' 'b';", 11);
         fault("send 0 'a'}", 10);
         fault("check 'a", 6);
