@@ -34,6 +34,22 @@ final class Bench {
         if (wrong != 0) System.exit(1);
     }
 
+    /** A house of these KINDS with OWN COMMANDS. */
+    static Bench owning(String text, int... kinds) {
+        Bench b = new Bench();
+        b.own(text);
+        for (int kind : kinds) b.house.instrument(kind);
+        return b;
+    }
+
+    /** A METER whose input is joined to SIGNAL 0, which is so many thousandths. */
+    static Bench metering(int thousandths) {
+        Bench b = with(1);
+        b.house.signal(0, 0, thousandths, 0, 1);
+        b.house.wire(0, 0, 0);
+        return b;
+    }
+
     /** Puts a text of characters 0 to 255 on the tape. */
     Bench tape(String s) {
         int at = 0;
@@ -85,6 +101,34 @@ final class Bench {
     String ask(int i, String s) {
         tell(i, s);
         return take(i);
+    }
+
+    /** What the calls that look tell of an INSTRUMENT, in some 120 calls; they may leave a FAULT of a LANE. */
+    String stateOf(int i) {
+        StringBuilder s = new StringBuilder("\n");
+        for (int k = 0; k < 12; k++) s.append(house.about(i, k)).append(' ');
+        for (int k = 0; k < 15; k++) s.append(house.register(i, k / 5, k % 5)).append(' ');
+        int errors = house.about(i, 3);
+        for (int k = 0; k < errors; k++) s.append(house.error(i, k)).append(' ');
+        int commands = house.count(1);
+        for (int c = 0; c < commands; c++) s.append(house.setting(i, c, 1, 0)).append(' ');
+        for (int k = 0; k < 2; k++) s.append(house.reading(i, k)).append(' ');
+        for (int l = 0; l < 3 && house.about(i, 0) > 0; l++) {
+            int sort = house.measure(i, l, 0);
+            int items = house.measure(i, l, 1);
+            s.append(sort).append('*').append(items).append(' ');
+            for (int k = 0; k < Math.min(3, items); k++) s.append(sort < 6 ? house.get(i, l, sort, k) : house.marked(i, l, k)).append(' ');
+        }
+        return s.toString();
+    }
+
+    /** What they tell of the house and of its latest RUN. */
+    String runs() {
+        StringBuilder s = new StringBuilder("\n");
+        for (int k = 1; k < 7; k++) s.append(house.count(k)).append(' ');
+        for (int k = 0; k < 4; k++) s.append(house.ran(k)).append(' ');
+        for (int k = 0; k < 2; k++) s.append(house.result(k, 0)).append('@').append(house.result(k, 1)).append(' ');
+        return s.toString();
     }
 
     /** All ERRORS, parted by blanks; they are gone then. */
