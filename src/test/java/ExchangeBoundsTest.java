@@ -204,6 +204,14 @@ public final class ExchangeBoundsTest {
             String rest = b.take(0);
             Bench.due("the last", rest.charAt(rest.length() - 1), 10);
         }
+        Bench a = withOutput(60);
+        a.part(0, "\n*TST?;");
+        room(a, 6, 60, 1);
+        a.house.take(0);
+        room(a, 6, 60, 1);
+        a.house.take(0);
+        room(a, 0, 60, 0);
+        Bench.due("a MESSAGE's first answer needs no room for a ;", a.take(0), ";0".repeat(29) + "\n0");
         Bench b = withOutput(60);
         b.tell(0, "*ESE 9");
         room(b, 0, 60, 1);
@@ -340,6 +348,18 @@ public final class ExchangeBoundsTest {
         b.house.tick(1);
         b.tell(0, "\n");
         Bench.due("nor then", b.take(0), "0;9.91E37\n0\n");
+        for (int n = 1; n <= 2; n++) {
+            Bench h = withOutput(60);
+            h.part(0, "\n" + "*ESE 7\n".substring(0, n));
+            room(h, n, 60, 1);
+            h.house.take(0);
+            room(h, n, 60, 0);
+            h.part(0, "*ESE 7\n".substring(n));
+            Bench.due("nor where its first byte came before", h.house.about(0, 3), 0);
+            Bench.due("it is done", h.house.register(0, 2, 1), 7);
+            h.part(0, " ");
+            Bench.due("the first byte of the next", h.house.error(0, 0), -410);
+        }
         Bench c = withOutput(59);
         c.part(0, "\n");
         room(c, 0, 60, 0);

@@ -3,12 +3,13 @@ public final class MessageBoundsTest {
     private static final String OWN = ":I;:N whole -999999 999999 0;:T truth 0;:C choice UP/DOWNward;:P whole 0 9 0 truth 0;"
         + ":W#2:X:Y:Z truth 0;:V whole 0 9 5 whole 0 9 5;";
     private static final int N = 38, T = 39, C = 40, P = 41, W = 42;
-    private static final int NULL = 14, LOWER = 15;
+    private static final int NULL = 14, LOWER = 15, UPPER = 16;
 
     public static void main(String[] args) {
         white();
         unitsOfWhite();
         endsOfUnits();
+        endToldWithAnyByte();
         beginnings();
         lettersOfHeaders();
         digitsOfSuffixes();
@@ -112,6 +113,22 @@ public final class MessageBoundsTest {
             Bench.due("with the END", h.house.setting(0, N, 1, 0), 5);
             Bench.due("UNITS", h.house.count(5), 1);
             Bench.due("the MESSAGE is done", h.errorsOf(0, "*ESE 1"), "");
+        }
+    }
+
+    /** The END can be told with any byte. */
+    private static void endToldWithAnyByte() {
+        int[] bytes = {0, 1, 10, 32, ';', '5', 127, 128, 255};
+        for (int b : bytes) {
+            Bench h = house();
+            h.tell(0, "*TST?;" + (char) b);
+            Bench.due("the MESSAGE ends with byte " + b, h.take(0), "0\n");
+            h.tell(0, "FOO;x" + (char) b);
+            h.tell(0, "N 5");
+            Bench.due("what is passed over ends with byte " + b, h.house.setting(0, N, 1, 0), 5);
+            h.tell(0, "DISP:TEXT 'a" + (char) b);
+            h.tell(0, "N 6");
+            Bench.due("a STRING ends with byte " + b, h.house.setting(0, N, 1, 0), 6);
         }
     }
 
@@ -367,6 +384,13 @@ public final class MessageBoundsTest {
             "499999999999E-12", "999999999999E-12", "1E-99", "-1E-99", "999999999999E-99", "123456789012E-6", "123456500000E-6", "0.0000000000000000005E18", "0.0000000000000000005E19"};
         long[] due = {1, 0, -1, 0, 2, 3, -3, 2, 999999, -999999, 5, 5, 4, 1, 0, 1, 0, 1, 0, 0, 0, 123457, 123457, 1, 5};
         for (int k = 0; k < told.length; k++) value(N, "N " + told[k], due[k]);
+        for (int e = 12; e <= 40; e++) {
+            Bench h = house();
+            h.tell(0, "N 7;N 999999999999E-" + e);
+            Bench.due("999999999999E-" + e, h.house.setting(0, N, 1, 0), e == 12 ? 1 : 0);
+            h.tell(0, "CALC:NULL 7;NULL 999999999999E-" + e);
+            Bench.due("999999999999E-" + e + " in thousandths", h.house.setting(0, NULL, 1, 0), e == 12 ? 1000 : e == 13 ? 100 : e == 14 ? 10 : e == 15 ? 1 : 0);
+        }
         each("-222", "N ", "999999.5", "-999999.5", "1000000", "-1000000", "1E6", "99999950E-2", "0.0000000000000000005E26");
     }
 
@@ -389,7 +413,8 @@ public final class MessageBoundsTest {
         String[] lower = {"1E6", "-1E6", "1MA", "1000K", "1000000.0004", "-1000000.0004"};
         for (String s : lower) value(LOWER, "CALC:LIM:LOW " + s, s.startsWith("-") ? -1000000000 : 1000000000);
         each("-222", "CALC:LIM:LOW ", "1000000.0005", "-1000000.0005", "1000000.001", "1.0000000005MA", "1000.0000005K");
-        each("-222", "CALC:LIM:UPP ", "1000000.0005", "-1000000.0005");
+        for (String s : lower) value(UPPER, "CALC:LIM:UPP " + s, s.startsWith("-") ? -1000000000 : 1000000000);
+        each("-222", "CALC:LIM:UPP ", "1000000.0005", "-1000000.0005", "1000000.001", "-1000000.001");
     }
 
     /** "its UNIT: [ MA | K | M | U ] V or one of these four alone (letters great or small)"; "a UNIT that cannot be -131" */

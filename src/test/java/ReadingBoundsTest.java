@@ -17,6 +17,7 @@ public final class ReadingBoundsTest {
         negativeZero();
         halves();
         offsets();
+        smallRests();
         limits();
         toldThousandths();
         fortyReadings();
@@ -65,7 +66,10 @@ public final class ReadingBoundsTest {
         Bench.due("none", x.wire(1, 0, 3), -1);
         int[][] bad = {{0, 0, 0}, {0, 1, 0}, {-1, 0, 0}, {3, 0, 0}, {1, 1, 0}, {1, -1, 0}, {1, 8, 0}, {1, 0, 6}, {1, 0, -2}, {2, 0, 0}, {2, 9, 0}, {2, -1, 0}, {2, 1, 6}, {2, 8, -2},
             {Integer.MIN_VALUE, 0, 0}, {Integer.MAX_VALUE, 0, 0}, {1, Integer.MAX_VALUE, 0}, {2, Integer.MIN_VALUE, 0}, {1, 0, Integer.MAX_VALUE}, {2, 1, Integer.MIN_VALUE}};
-        for (int[] w : bad) Bench.due("wire", x.wire(w[0], w[1], w[2]), BAD);
+        // twice, as BAD is what a wire to none answers, too
+        for (int k = 0; k < 2; k++) {
+            for (int[] w : bad) Bench.due("wire", x.wire(w[0], w[1], w[2]), BAD);
+        }
         Bench.due("it stays", x.wire(1, 0, 3), 3);
         for (int c = 1; c <= 8; c++) Bench.due("channel " + c, x.wire(2, c, c % 6), -1);
         for (int c = 1; c <= 8; c++) Bench.due("channel " + c, x.wire(2, c, -1), c % 6);
@@ -260,6 +264,33 @@ public final class ReadingBoundsTest {
         Bench.due("not OVER", b.house.register(0, 1, 0), 0);
     }
 
+    /** What NULL leaves of a READING of the same size may be far below a thousandth. */
+    private static void smallRests() {
+        int small = 0;
+        for (int r = 0; r <= 3; r++) {
+            double top = Math.pow(10, r);
+            double res = top / 10000.0;
+            Bench b = Bench.with(1);
+            for (int k = 0; k < 40; k++) {
+                if (k % 10 == 0) {
+                    b = Bench.with(1);
+                    b.house.wire(0, 0, 0);
+                    b.house.lane(0, 0, 4, 10);
+                    b.tell(0, "RANG " + r + ";:TRAC:FEED ON");
+                }
+                int a = (int) (top * (7 + 24 * k));
+                b.house.signal(0, 0, a, 0, 1);
+                b.tell(0, "CALC:NULL " + a + "M");
+                double due = Math.rint(a / 1000.0 / res) * res - a / 1000.0;
+                Bench.due("READING of " + a + " less itself", read(b), bits(due));
+                Bench.due("as a float", b.house.get(0, 0, 4, k % 10), Float.floatToIntBits((float) due));
+                Bench.due("it is told", b.ask(0, "FETC?"), Math.abs(due) < 0.0005 ? "0.000\n" : "?");
+                if (due != 0 && Math.abs(due) < 1e-12) small++;
+            }
+        }
+        Bench.due("there were such", small > 5 ? 1 : 0, 1);
+    }
+
     /** "x at least LOWER / 1000.0 and at most UPPER / 1000.0" */
     private static void limits() {
         Bench b = Bench.metering(0);
@@ -367,6 +398,8 @@ public final class ReadingBoundsTest {
             b.tell(0, "ROUT:OPEN (@1:8);CLOS (@" + c + ")");
             Bench.due("channel " + c, read(b), bits(Math.rint(c / 10.0 / 0.0001) * 0.0001));
         }
+        b.tell(0, "ROUT:CLOS (@1,6);OPEN (@1)");
+        Bench.due("none but those of the LIST is opened", b.house.about(0, 9), 1 << 6);
         b.tell(0, "ROUT:CLOS (@4,5)");
         Bench.due("the least channel", read(b), bits(Math.rint(0.4 / 0.0001) * 0.0001));
     }

@@ -14,6 +14,8 @@ public final class StatusBoundsTest {
         presets();
         questionable();
         statusBits();
+        oneByteOfOutput();
+        conditionsTold();
         serviceEnable();
         serviceComesAndGoes();
         serviceOfFour();
@@ -254,6 +256,33 @@ public final class StatusBoundsTest {
         Bench.due("EVENT without its ENABLE", b.house.register(0, 2, 2), 0);
         b.tell(0, "*ESE 255");
         Bench.due("EVENT with its ENABLE", b.house.register(0, 2, 2), 32);
+    }
+
+    /** "16 OUTPUT is not empty" */
+    private static void oneByteOfOutput() {
+        Bench b = Bench.with(0);
+        for (int k = 0; k < 3; k++) b.part(0, "*TST?;");
+        for (int left = 5; left >= 0; left--) {
+            Bench.due("OUTPUT", b.house.about(0, 2), left);
+            Bench.due("STATUS with " + left, b.house.register(0, 2, 2), left > 0 ? 16 : 0);
+            Bench.due("poll with " + left, b.house.poll(0), left > 0 ? 16 : 0);
+            if (left > 0) b.house.take(0);
+        }
+        Bench.due("*STB? of one byte", Bench.with(0).ask(0, "*STB?;*STB?"), "0;16\n");
+        Bench c = Bench.with(0);
+        c.tell(0, "*SRE 16");
+        c.part(0, "*TST?;");
+        Bench.due("SERVICE of one byte", c.house.service(), 1);
+        c.house.take(0);
+        Bench.due("none is left", c.house.service(), 0);
+    }
+
+    private static void conditionsTold() {
+        Bench b = Bench.metering(1001);
+        b.tell(0, "CALC:LIM:STAT 1;:INIT:CONT 1");
+        b.house.tick(1);
+        Bench.due("each its own", b.ask(0, "STAT:OPER:COND?;:STAT:QUES:COND?"), "16;513\n");
+        Bench.due("each its own", b.ask(0, "STAT:QUES?;:STAT:OPER?;:STAT:QUES?;:STAT:OPER?"), "513;16;0;0\n");
     }
 
     /** "*SRE n (bit 64 is not looked at)" */

@@ -12,6 +12,7 @@ public final class TapeBoundsTest {
         usedUpRefusedOrNot();
         orderOfRefusals();
         newObject();
+        fiveHundredAndTwelveCalls();
         Bench.end();
     }
 
@@ -83,8 +84,9 @@ public final class TapeBoundsTest {
         Bench.due("a FAULT at the last byte", c.test(" ".repeat(799) + "}"), -10 - 799);
         Bench.due("a text that ends too early", c.test(" ".repeat(796) + "wait"), -10 - 800);
         Bench.due("a TEST that ends with the last byte", c.test(" ".repeat(793) + "wait 5;"), 1);
-        Bench.due("a HEADER of 800 bytes", c.header("A:".repeat(399) + "AB"), -5);
-        Bench.due("one that ends with a :", c.header("A:".repeat(400)), BAD);
+        Bench d = new Bench();
+        Bench.due("a HEADER of 800 bytes", d.header("A:".repeat(399) + "AB"), -5);
+        Bench.due("one that ends with a :", d.header("A:".repeat(400)), BAD);
     }
 
     private static void allOfATapeIsSent() {
@@ -150,5 +152,19 @@ public final class TapeBoundsTest {
         y.instrument(1);
         y.tick(9);
         Bench.due("of another object nothing comes", x.count(0) + x.count(2) + x.count(3), 0);
+    }
+
+    /** "An object is used for at most 512 calls after it has been made" */
+    private static void fiveHundredAndTwelveCalls() {
+        Bench b = Bench.with(1);
+        b.tell(0, "INIT:CONT 1");
+        int calls = 4;
+        for (; calls < 509; calls++) Bench.due("TIME", b.house.tick(64), 64 * (calls - 3));
+        Bench.due("READINGS at the 510th", b.house.about(0, 7), 64 * 505);
+        Bench.due("the eldest at the 511th", b.house.reading(0, 39), 0x7ff8000000000000L);
+        Bench.due("no more at the 512th", b.house.reading(0, 40), GaugeHouse.NONE);
+        GaugeHouse x = new GaugeHouse();
+        for (int k = 0; k < 511; k++) x.feed(0, 8);
+        Bench.due("THE TAPE at the 512th", x.feed(0, 1), FULL);
     }
 }
