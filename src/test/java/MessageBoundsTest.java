@@ -26,6 +26,8 @@ public final class MessageBoundsTest {
         lists();
         channelsOfLists();
         endsWhereMoreIsWanted();
+        behindALongerUnit();
+        valuesBehindALongerUnit();
         howManyData();
         howManyDataAsked();
         sorts();
@@ -330,6 +332,49 @@ public final class MessageBoundsTest {
             i.part(0, messages[k] + "\n");
             Bench.due("errors of " + messages[k] + " and a 10", i.house.error(0, 0), messages[k].endsWith("#12") ? -1 : Integer.parseInt(due[k]));
         }
+    }
+
+    /** What a UNIT before had, where this one is at its END, is not of this one. */
+    private static void behindALongerUnit() {
+        String[][] cut = {{"I:", "I", "-101"}, {":", "I", "-101"}, {"*", "CLS", "-101"}, {"*C", "LS", "-101"}, {"*CL", "S", "-101"}, {"I 1,", "1", "-101"}, {"I 1,", "A", "-101"}, {"I 1, ", "'a'", "-101"},
+            {"I +", "1", "-121"}, {"I .", "5", "-121"}, {"I -", ".5", "-121"}, {"I 1E+", "5", "-121"}, {"I #H", "F", "-121"}, {"I #B", "1", "-121"}, {"I #", "H1", "-161"}, {"I #", "10", "-161"},
+            {"I #1", "0", "-161"}, {"I #2", "00", "-161"}, {"I #20", "0", "-161"}, {"I #11", "a", "-161"}, {"I #12a", "b", "-161"}, {"I (", "@1)", "-171"}, {"I (@", "1)", "-171"}, {"I (@1", ")", "-171"},
+            {"I (@1,", "2)", "-171"}, {"I (@1:", "2)", "-171"}, {"I (@1", ",2)", "-171"}, {"I (@1", "2)", "-171"}, {"I (@1 ", ")", "-171"}, {"I ( ", "@1)", "-171"}, {"I 'a", "'", "-151"},
+            {"I \"", "\"", "-151"}, {"I 'a''", "'", "-151"}, {"I", "?", ""}, {"I", "1", ""}, {"I", ":I", ""}, {"I", "X", ""}, {"I", " 1", ""}, {"I ", "1", ""}, {"I?", " 1", ""}, {"I?", "?", ""},
+            {"*CLS", "X", ""}, {"*CLS", "?", ""}, {"*CLS", " 1", ""}, {"N 1", ",2", ""}, {"N 1 ", "2", ""}, {"N 1", "V", ""}, {"N 1", " V", ""}, {"N 1", "E100", ""}, {"N 1", ".x", ""},
+            {"N 123456789012", "3", "-222"}, {"I ABCDEFGHIJKL", "M", "-108"}, {"ABCDEFGHIJKL", "M", "-113"}, {"C UP", "P", ""}, {"C DOWN", "w", ""}, {"T ON", "N", ""}, {"N MIN", "I", ""},
+            {"DISP:TEXT ''", "'", ""}, {"ROUT:CLOS (@1)", ",", ""}, {"CALC:NULL 1M", "M", ""}, {"CALC:NULL 1", "X", ""}};
+        for (String[] c : cut) {
+            Bench h = house();
+            h.tell(0, c[0] + c[1]);
+            Bench.due("errors of " + c[0] + " behind " + c[0] + c[1], h.errorsOf(0, c[0]), c[2]);
+        }
+    }
+
+    private static void valuesBehindALongerUnit() {
+        String[][] cut = {{"N 1", "2"}, {"N 1", ".9"}, {"N 1.", "9"}, {"N 1", "E3"}, {"N 1E0", "3"}, {"N 1 ", "E3"}, {"N #H1", "F"}, {"N #B1", "1"}, {"N .9", "E2"}, {"N 1E1", "1"}};
+        long[] due = {1, 1, 1, 1, 1, 1, 1, 1, 1, 10};
+        for (int k = 0; k < cut.length; k++) {
+            Bench h = house();
+            h.tell(0, cut[k][0] + cut[k][1]);
+            h.tell(0, cut[k][0]);
+            Bench.due(cut[k][0] + " behind " + cut[k][0] + cut[k][1], h.house.setting(0, N, 1, 0), due[k]);
+        }
+        String[][] reals = {{"CALC:NULL 1", "K"}, {"CALC:NULL 1M", "A"}, {"CALC:NULL 1", "M"}, {"CALC:NULL 1 ", "U"}};
+        long[] thousandths = {1000, 1, 1000, 1000};
+        for (int k = 0; k < reals.length; k++) {
+            Bench h = house();
+            h.tell(0, reals[k][0] + reals[k][1]);
+            h.tell(0, reals[k][0]);
+            Bench.due(reals[k][0] + " behind " + reals[k][0] + reals[k][1], h.house.setting(0, NULL, 1, 0), thousandths[k]);
+        }
+        Bench h = house();
+        h.tell(0, "DISP:TEXT 'a''b'");
+        h.tell(0, "DISP:TEXT 'a'");
+        Bench.due("a STRING that ends", h.ask(0, "DISP:TEXT?"), "\"a\"\n");
+        h.tell(0, "ROUT:CLOS (@1,2,3,7)");
+        Bench.due("a LIST that ends", h.ask(0, "ROUT:CLOS? (@3)"), "1\n");
+        Bench.due("a HEADER that ends", h.ask(0, "W2:X:Y:Z 1;:W:X:Y:Z?"), "0\n");
     }
 
     /** "2 data: too few -109, too many -108" */

@@ -12,6 +12,8 @@ public final class ScriptBoundsTest {
         words();
         strings();
         textsThatEndTooEarly();
+        behindALongerTape();
+        behindALongerAnswer();
         blanksAndOtherBytes();
         refusedRuns();
         stepsAtTheBound();
@@ -187,6 +189,41 @@ public final class ScriptBoundsTest {
         }
         good("");
         good(" \n ");
+    }
+
+    /** What THE TAPE had before, behind where it ends now, is not of the text. */
+    private static void behindALongerTape() {
+        String[][] cut = {{"wait 1", ";"}, {"wait ", "1;"}, {"send 0 'a", "b';"}, {"send 0 '", "';"}, {"send 0 'a'", ";"}, {"repeat 2{", "}"}, {"repeat 2", "{}"}, {"try", "{}"}, {"want 1 -", "1;"}, {"check ", "0;"}};
+        for (String[] c : cut) {
+            Bench b = new Bench();
+            Bench.due("test " + c[0] + c[1], b.test(c[0] + c[1]), 0);
+            int quote = c[0].equals("send 0 'a'") ? -1 : c[0].indexOf('\'');
+            Bench.due("test " + c[0] + " behind it", b.test(c[0]), -10 - (quote < 0 ? c[0].length() : quote));
+        }
+        Bench b = new Bench();
+        b.test("try{raise 5;}fail 0{}");
+        Bench.due("what may be left out", b.test("try{raise 5;}"), 1);
+        Bench.due("is not of it", b.house.run(1, 9), 105);
+        b.test("wait 12;");
+        b.test("wait 1;2;");
+        Bench.due("nor is a STATEMENT", b.test("wait 1;"), 3);
+        b.house.run(3, 9);
+        Bench.due("STEPS", b.house.ran(0), 1);
+    }
+
+    private static void behindALongerAnswer() {
+        Bench b = Bench.with(1);
+        Bench.due("9.91E37", answer(b, "READ?"), 1000000000000L);
+        Bench.due("9", answer(b, "*ESE 9;*ESE?"), 9000);
+        Bench.due("128", answer(b, "*ESR?"), 128000);
+        Bench.due("1", answer(b, "*OPC?"), 1000);
+        Bench.due("-5.000", answer(b, "CALC:NULL -5;NULL?"), -5000);
+        Bench c = Bench.with(1);
+        Bench.due("-1000.000", answer(c, "CALC:NULL -1000;NULL?"), -1000000);
+        Bench.due("0", answer(c, "*TST?"), 0);
+        Bench.due("12", answer(c, "*ESE 12;*ESE?"), 12000);
+        Bench.due("BENCH,1,0,0", answer(c, "*IDN?"), 0);
+        Bench.due("7", answer(c, "*ESE 7;*ESE?"), 7000);
     }
 
     private static void blanksAndOtherBytes() {

@@ -14,6 +14,7 @@ public final class TableBoundsTest {
         likeWordsOfAChoice();
         twentyOwnOnes();
         textsThatEndTooEarly();
+        behindALongerTape();
         blanks();
         twins();
         withAFaultNoneComes();
@@ -308,6 +309,32 @@ public final class TableBoundsTest {
         good("", 0);
         fault(":A;:", 4);
         fault(":A;:B", 5);
+    }
+
+    /** What THE TAPE had before, behind where it ends now, is not of the text. */
+    private static void behindALongerTape() {
+        String[][] cut = {{":B", ";"}, {":B#", "2;"}, {":B whole 1 2 ", "1;"}, {":B whole 1 2 1", ";"}, {":B truth ", "1;"}, {":B choice X", "/Y;"}, {":B choice X/", "Y;"}, {"[:B", "]:C;"}, {":", "B;"}};
+        for (String[] c : cut) {
+            Bench b = new Bench();
+            Bench.due("own " + c[0] + c[1], b.own(c[0] + c[1]), 38);
+            Bench.due("own " + c[0] + " behind it", b.own(c[0]), -10 - c[0].length());
+        }
+        Bench b = new Bench();
+        b.own(":Q whole 1 9 12;");
+        Bench.due("digits that end", b.own(":Q whole 1 9 1"), -10 - 14);
+        String[][] headers = {{"INIT", ":CONT"}, {"INIT", "iate"}, {"INIT", "1"}, {"FETC", ":"}, {"FETC", "?"}, {"SYST:ERR", ":COUN"}};
+        int[] due = {0, 0, 0, 9, 9, 35};
+        for (int k = 0; k < headers.length; k++) {
+            b.header(headers[k][0] + headers[k][1]);
+            Bench.due("header " + headers[k][0] + " behind " + headers[k][0] + headers[k][1], b.header(headers[k][0]), due[k]);
+        }
+        b.header("INIT");
+        Bench.due("a HEADER that ends", b.header("INIT:"), BAD);
+        b.header("INIT:IMM");
+        Bench.due("a HEADER that ends", b.header("INIT:"), BAD);
+        b.header(":INIT");
+        Bench.due("a HEADER that ends", b.header(":"), BAD);
+        Bench.due("none", b.header(""), BAD);
     }
 
     /** "blanks (32, 10) between them as may be"; "what begins none" */
