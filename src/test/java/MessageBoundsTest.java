@@ -343,11 +343,13 @@ public final class MessageBoundsTest {
             {"I \"", "\"", "-151"}, {"I 'a''", "'", "-151"}, {"I", "?", ""}, {"I", "1", ""}, {"I", ":I", ""}, {"I", "X", ""}, {"I", " 1", ""}, {"I ", "1", ""}, {"I?", " 1", ""}, {"I?", "?", ""},
             {"*CLS", "X", ""}, {"*CLS", "?", ""}, {"*CLS", " 1", ""}, {"N 1", ",2", ""}, {"N 1 ", "2", ""}, {"N 1", "V", ""}, {"N 1", " V", ""}, {"N 1", "E100", ""}, {"N 1", ".x", ""},
             {"N 123456789012", "3", "-222"}, {"I ABCDEFGHIJKL", "M", "-108"}, {"ABCDEFGHIJKL", "M", "-113"}, {"C UP", "P", ""}, {"C DOWN", "w", ""}, {"T ON", "N", ""}, {"N MIN", "I", ""},
-            {"DISP:TEXT ''", "'", ""}, {"ROUT:CLOS (@1)", ",", ""}, {"CALC:NULL 1M", "M", ""}, {"CALC:NULL 1", "X", ""}};
+            {"DISP:TEXT ''", "'", ""}, {"ROUT:CLOS (@1)", ",", ""}, {"CALC:NULL 1M", "M", ""}, {"CALC:NULL 1", "X", ""},
+            {"CALC:NULL 1M", "V", ""}, {"CALC:NULL 1K", "V", ""}, {"CALC:NULL 1V", "V", ""}, {"N 1E", "-5", "-131"}, {"N 1E", "+5", "-131"}, {"N 1E", "5", "-131"}, {"N 1E ", "5", "-131"}};
+        // the blanks stand where the *CLS between both stands
         for (String[] c : cut) {
             Bench h = house();
-            h.tell(0, c[0] + c[1]);
-            Bench.due("errors of " + c[0] + " behind " + c[0] + c[1], h.errorsOf(0, c[0]), c[2]);
+            h.tell(0, "     " + c[0] + c[1]);
+            Bench.due("errors of " + c[0] + " behind " + c[0] + c[1], h.errorsOf(0, "     " + c[0]), c[2]);
         }
     }
 

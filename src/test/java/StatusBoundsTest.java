@@ -18,6 +18,7 @@ public final class StatusBoundsTest {
         conditionsTold();
         serviceEnable();
         serviceComesAndGoes();
+        serviceBehindEachUnit();
         serviceOfFour();
         completeAsNothingIsPending();
         Bench.end();
@@ -319,6 +320,23 @@ public final class StatusBoundsTest {
         b.tell(0, "SYST:ERR?;ERR?;ERR?");
         Bench.due("none is left", b.house.service(), 0);
         Bench.due("poll then", b.house.poll(0), 16);
+    }
+
+    /** "looked at behind each .. UNIT": OUTPUT has one byte behind the second one alone, and none behind the byte with which both are done. */
+    private static void serviceBehindEachUnit() {
+        Bench b = Bench.with(0);
+        b.tell(0, "*ESE 10;*SRE 20;FOO");
+        Bench.due("by the ERROR", b.house.poll(0), 68);
+        b.part(0, "*ESE?;" + "*TST?;".repeat(29) + "\n");
+        Bench.due("by OUTPUT", b.house.poll(0), 84);
+        b.part(0, " ".repeat(67) + "*ESE 2;*TST?\n");
+        Bench.due("INPUT", b.house.about(0, 1), 80);
+        Bench.due("nothing came", b.house.poll(0), 20);
+        b.part(0, " ");
+        Bench.due("DEADLOCKED", b.house.error(0, 1), -430);
+        Bench.due("INTERRUPTED", b.house.error(0, 2), -410);
+        Bench.due("OUTPUT", b.house.about(0, 2), 0);
+        Bench.due("OUTPUT was not empty behind a UNIT", b.house.poll(0), 68);
     }
 
     /** "INSTRUMENTS that ask for SERVICE, as bits" */

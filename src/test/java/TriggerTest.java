@@ -188,6 +188,12 @@ public final class TriggerTest {
         b.tell(0, "*RST;:TRIG:SOUR BUS;:INIT;:TRIG:SOUR IMM");
         b.house.tick(1);
         layer(b, 4);
+        b.tell(0, "*RST;:ARM:SOUR BUS;:INIT:CONT ON;*TRG");
+        b.house.tick(1);
+        b.tell(0, "ARM:SOUR IMM");
+        layer(b, 1);
+        b.house.tick(1);
+        layer(b, 4);
         b.tell(0, "*RST;:INIT;:INIT:CONT ON;CONT OFF");
         b.house.tick(1);
         layer(b, 0);
