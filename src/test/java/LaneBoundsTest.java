@@ -366,6 +366,14 @@ public final class LaneBoundsTest {
             Bench.due("copy", x.copy(0, 0, 0, 0, 1, 0, 3), -15);
             for (int k = 0; k < 3; k++) Bench.due("item " + k, x.marked(0, 1, k), k < bad ? 106 + k : NONE);
         }
+        GaugeHouse y = afterReadings(139).house;
+        y.lane(0, 0, 6, 40);
+        y.lane(0, 1, 7, 40);
+        for (int k = 0; k < 40; k++) y.mark(0, 0, k, 99 + k);
+        Bench.due("40 of them", y.copy(0, 0, 0, 0, 1, 0, 40), 1);
+        for (int k = 0; k < 40; k++) Bench.due("item " + k, y.marked(0, 1, k), 100 + k);
+        Bench.due("the last of them", y.copy(0, 0, 39, 0, 1, 0, 1), 1);
+        Bench.due("the last of them", y.marked(0, 1, 0), 139);
         GaugeHouse x = afterReadings(110).house;
         x.lane(0, 0, 6, 3);
         x.lane(0, 1, 7, 3);

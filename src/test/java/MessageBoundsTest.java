@@ -311,6 +311,12 @@ public final class MessageBoundsTest {
         h.tell(0, "ROUT:CLOS (@8,7,4,3)");
         Bench.due("20 are told", h.ask(0, "ROUT:CLOS? (@1:8,8:1,1:4)"), "0,0,1,0,0,0,1,0,0,1,0,0,0,1,0,0,0,0,1,0\n");
         int closings = h.house.about(0, 10);
+        Bench all = house();
+        all.tell(0, "ROUT:CLOS (@1:8,8:1,4:3,6:7)");
+        Bench.due("20 are closed in order", all.house.about(0, 9), 1 << 3 | 1 << 7);
+        Bench.due("each of them", all.house.about(0, 10), 20);
+        all.tell(0, "ROUT:OPEN (@1,1,1,1,1,1,1,1,1,1,1,1,1,1,1,1,1,1,1,7)");
+        Bench.due("the 20th is opened", all.house.about(0, 9), 1 << 3);
         String[] refused = {"ROUT:CLOS (@1,9)", "ROUT:CLOS (@0,1)", "ROUT:CLOS (@1:8,1:8,1:5)", "ROUT:OPEN (@3,7,9)", "ROUT:OPEN (@0:20)"};
         for (String s : refused) {
             h.tell(0, s);

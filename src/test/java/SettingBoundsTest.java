@@ -70,7 +70,8 @@ public final class SettingBoundsTest {
         String[] meters = {"INIT", "INIT:CONT?", "ABOR", "ARM:SOUR?", "ARM:COUN?", "TRIG:SOUR?", "TRIG:COUN?", "TRIG:DEL?", "TRIG:TIM?", "FETC?", "READ?", "RANG?", "RANG:AUTO?", "APER?", "CALC:NULL?", "CALC:LIM:LOW?",
             "CALC:LIM:UPP?", "CALC:LIM:STAT?", "CALC:LIM:FAIL?", "TRAC:FEED?", "TRAC:DATA #10", "*TRG"};
         String[] scanners = {"ROUT:CLOS (@1)", "ROUT:CLOS? (@1)", "ROUT:OPEN (@1)"};
-        String[] plains = {"DISP:TEXT?", "STAT:OPER?", "STAT:OPER:COND?", "STAT:QUES:NTR?", "STAT:PRES", "SYST:ERR?", "SYST:ERR:COUN?", "*CLS", "*IDN?", "*RST", "*SAV 0", "*WAI", "*OPC?"};
+        String[] plains = {"DISP:TEXT?", "DISP:TEXT 'a'", "STAT:OPER?", "STAT:OPER:COND?", "STAT:OPER:ENAB?", "STAT:OPER:PTR?", "STAT:OPER:NTR?", "STAT:QUES?", "STAT:QUES:COND?", "STAT:QUES:ENAB?",
+            "STAT:QUES:PTR?", "STAT:QUES:NTR?", "STAT:PRES", "*CLS", "*ESE 1", "*ESE?", "*ESR?", "*OPC", "*SRE 1", "*SRE?", "*STB?", "*TST?", "SYST:ERR?", "SYST:ERR:COUN?", "*CLS", "*IDN?", "*RST", "*SAV 0", "*WAI", "*OPC?"};
         for (int kind = 0; kind < 3; kind++) {
             for (String s : meters) Bench.due(s + " of KIND " + kind, Bench.with(kind).errorsOf(0, s).equals("-113") ? 1 : 0, kind < 1 ? 1 : 0);
             for (String s : scanners) Bench.due(s + " of KIND " + kind, Bench.with(kind).errorsOf(0, s), kind < 2 ? "-113" : "");

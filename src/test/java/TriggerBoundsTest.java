@@ -13,6 +13,7 @@ public final class TriggerBoundsTest {
         timers();
         timersShorterThanReadings();
         timersOfEachPass();
+        timersOfOtherSources();
         initiatedTwice();
         readWhileContinuous();
         busEvents();
@@ -217,6 +218,21 @@ public final class TriggerBoundsTest {
         at(b, 2, 4);
         b.tell(0, "ABOR;:INIT");
         at(b, 4, 4);
+    }
+
+    private static void timersOfOtherSources() {
+        Bench b = meter("TRIG:TIM 50;COUN 3;:INIT");
+        for (int k = 0; k < 3; k++) {
+            at(b, 4, k);
+            b.house.tick(1);
+        }
+        at(b, 0, 3);
+        b.tell(0, "TRIG:SOUR BUS;TIM 1;:INIT");
+        b.house.tick(5);
+        at(b, 2, 3);
+        Bench.due("the BUS alone", b.house.trigger(0), 4);
+        b.house.tick(5);
+        at(b, 2, 4);
     }
 
     /** ":INITiate .. IDLE: INITIATED; else -213" */
