@@ -2155,7 +2155,11 @@ public final class GaugeHouse {
                     else deadlock();
                     proceed(time);
                 }
-                if (unit.input.space() == 0) return k;
+                if (unit.input.space() == 0) {
+                    // a byte that does not come was sent, too, and may have been the cause of a DEADLOCK
+                    look();
+                    return k;
+                }
                 // looked at behind the making of room, by which the MESSAGES before may have been done
                 if (!begun && hold == FREE && output.length > 0) {
                     status.fail(-410);

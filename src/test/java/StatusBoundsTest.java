@@ -19,6 +19,8 @@ public final class StatusBoundsTest {
         serviceEnable();
         serviceComesAndGoes();
         serviceBehindEachUnit();
+        serviceBehindByteThatDoesNotCome();
+        outputGoneBehindByteThatDoesNotCome();
         serviceOfFour();
         completeAsNothingIsPending();
         Bench.end();
@@ -337,6 +339,52 @@ public final class StatusBoundsTest {
         Bench.due("INTERRUPTED", b.house.error(0, 2), -410);
         Bench.due("OUTPUT", b.house.about(0, 2), 0);
         Bench.due("OUTPUT was not empty behind a UNIT", b.house.poll(0), 68);
+    }
+
+    /** A METER with a RUN that sends an A; SERVICE is ENABLED so, and not asked; OUTPUT is full and HOLDS the 10. */
+    private static Bench heldByOutput(String script, int enabled) {
+        Bench b = Bench.metering(500);
+        b.test(script);
+        b.part(0, "*ESE 128;*SRE " + enabled + ";:TRIG:TIM 10\n");
+        b.part(0, "TRIG:TIM?" + ";*TST?".repeat(29) + "\n");
+        Bench.due("OUTPUT", b.house.about(0, 2), 60);
+        Bench.due("HELD by", b.house.about(0, 6), 1);
+        b.house.poll(0);
+        return b;
+    }
+
+    /**
+     * "looked at behind each byte that is sent": also one that does not come. It is DEADLOCKED, READ? HOLDS then, and check
+     * takes the ERROR away, while another ENABLED bit is left.
+     */
+    private static void serviceBehindByteThatDoesNotCome() {
+        String script = "try { send 0 'A'; } fail 2 { try { check 0; } fail 4 { } }";
+        for (int blanks = 73; blanks <= 74; blanks++) {
+            Bench b = heldByOutput(script, 36);
+            b.part(0, "READ?;" + " ".repeat(blanks));
+            Bench.due("INPUT", b.house.about(0, 1), 6 + blanks);
+            Bench.due("not asked", b.house.service(), 0);
+            Bench.due("the RUN", b.house.run(0, 100), 0);
+            Bench.due("STEPS", b.house.ran(0), blanks < 74 ? 2 : 4);
+            Bench.due("HELD by", b.house.about(0, 6), blanks < 74 ? 1 : 2);
+            Bench.due("ERRORS", b.house.about(0, 3), 0);
+            Bench.due("SERVICE", b.house.service(), blanks < 74 ? 0 : 1);
+            Bench.due("bit 32 is left", b.house.poll(0), blanks < 74 ? 48 : 96);
+        }
+        Bench b = heldByOutput(script, 4);
+        b.part(0, "READ?;" + " ".repeat(74));
+        b.house.run(0, 100);
+        Bench.due("none is left behind the call", b.house.service(), 0);
+    }
+
+    /** The same of OUTPUT: a DEADLOCK empties it, which is seen behind the byte that does not come, so it comes anew in the TICK. */
+    private static void outputGoneBehindByteThatDoesNotCome() {
+        Bench b = heldByOutput("try { send 0 'A'; } fail 2 { wait 1; }", 16);
+        b.part(0, "READ?;" + " ".repeat(74));
+        Bench.due("not asked", b.house.service(), 0);
+        Bench.due("the RUN", b.house.run(0, 100), 0);
+        Bench.due("what is READ", b.house.about(0, 2), 5);
+        Bench.due("SERVICE", b.house.service(), 1);
     }
 
     /** "INSTRUMENTS that ask for SERVICE, as bits" */
