@@ -1893,7 +1893,6 @@ public final class GaugeHouse {
         private int began = -1;
         // what settling has to look at
         boolean idled = false;
-        boolean woken = false;
         final int[] wires = new int[9];
         // channel 1 has bit 1
         int closed = 0;
@@ -1935,14 +1934,12 @@ public final class GaugeHouse {
         void arm() {
             layer = ARM_LAYER;
             armPassed = 0;
-            woken = true;
         }
 
         void abort() {
             idled = true;
-            woken = set[CONTINUOUS] == 1;
-            layer = woken ? ARM_LAYER : IDLE;
-            armPassed = 0;
+            layer = IDLE;
+            if (set[CONTINUOUS] == 1) arm();
         }
 
         private void passArm() {
@@ -1964,7 +1961,6 @@ public final class GaugeHouse {
             boolean triggers = layer == TRIGGER_LAYER && set[TRIGGER_SOURCE] == BUS;
             if (arms) passArm();
             if (triggers) passTrigger();
-            if (arms || triggers) woken = true;
             return arms || triggers;
         }
 
@@ -2005,7 +2001,6 @@ public final class GaugeHouse {
                     if (set[CONTINUOUS] == 1) arm();
                 }
             }
-            woken = false;
             flow(time);
         }
 
@@ -2263,9 +2258,9 @@ public final class GaugeHouse {
         /** Looks at OPERATION's CONDITION, when what goes on at once has gone, and where it was IDLE before. */
         void settle(int time) {
             if (meter.idled) status.follow(0, 0);
-            if (meter.woken) meter.flow(time);
             meter.idled = false;
-            meter.woken = false;
+            // any UNIT may have set what a layer waits for
+            meter.flow(time);
             status.follow(0, meter.condition());
         }
 

@@ -14,6 +14,12 @@ public final class TriggerBoundsTest {
         timersShorterThanReadings();
         timersOfEachPass();
         timersOfOtherSources();
+        armSourceWhileItWaits();
+        triggerSourceWhileItWaits();
+        timerWhileItWaits();
+        sourceInTheMidstOfAMessage();
+        operationAsTheSourceChanges();
+        whatDoesNotWait();
         initiatedTwice();
         readWhileContinuous();
         busEvents();
@@ -233,6 +239,173 @@ public final class TriggerBoundsTest {
         Bench.due("the BUS alone", b.house.trigger(0), 4);
         b.house.tick(5);
         at(b, 2, 4);
+    }
+
+    /** "the ARM layer (1) waits for its SOURCE (IMMediate: at once; BUS), then passes it"; "What takes no TICK goes on at once." */
+    private static void armSourceWhileItWaits() {
+        String[] behind = {"TRIG:DEL 0", "TRIG:DEL 1", "TRIG:SOUR BUS", "TRIG:SOUR TIM;TIM 50", "APER 10"};
+        int[] layers = {4, 3, 2, 4, 4};
+        for (int k = 0; k < 5; k++) {
+            Bench b = meter("ARM:SOUR BUS;:" + behind[k] + ";:INIT");
+            at(b, 1, 0);
+            b.tell(0, "ARM:SOUR BUS");
+            at(b, 1, 0);
+            b.tell(0, "ARM:SOUR IMM");
+            at(b, layers[k], 0);
+            b.tell(0, "ARM:SOUR BUS");
+            at(b, layers[k], 0);
+        }
+        Bench b = meter("ARM:SOUR BUS;COUN 3;:TRIG:COUN 2;:INIT");
+        b.house.tick(5);
+        at(b, 1, 0);
+        b.tell(0, "ARM:SOUR IMM");
+        at(b, 4, 0);
+        b.tell(0, "ARM:SOUR BUS");
+        b.house.tick(2);
+        at(b, 1, 2);
+        b.tell(0, "ARM:SOUR IMM");
+        at(b, 4, 2);
+        b.house.tick(4);
+        at(b, 0, 6);
+        Bench c = meter("ARM:SOUR BUS;:INIT:CONT ON");
+        at(c, 1, 0);
+        c.tell(0, "ARM:SOUR IMM");
+        at(c, 4, 0);
+        c.house.tick(3);
+        at(c, 4, 3);
+        Bench d = meter("ARM:SOUR BUS;:INIT");
+        d.test("send 0 'ARM:SOUR IMM'; wait 1; ask 0 'FETC?';");
+        Bench.due("in a RUN", d.house.run(0, 9), 0);
+        at(d, 0, 1);
+    }
+
+    /** "the TRIGGER layer (2) likewise" */
+    private static void triggerSourceWhileItWaits() {
+        String[] sources = {"IMM", "TIM;TIM 50"};
+        for (String s : sources) {
+            Bench b = meter("TRIG:SOUR BUS;:INIT");
+            b.tell(0, "TRIG:SOUR BUS");
+            at(b, 2, 0);
+            b.tell(0, "TRIG:SOUR " + s);
+            at(b, 4, 0);
+            b.house.tick(1);
+            at(b, 0, 1);
+            Bench c = meter("TRIG:SOUR BUS;DEL 2;:INIT");
+            c.house.tick(2);
+            at(c, 2, 0);
+            c.tell(0, "TRIG:SOUR " + s);
+            at(c, 3, 0);
+            c.house.tick(1);
+            at(c, 3, 0);
+            c.house.tick(1);
+            at(c, 4, 0);
+        }
+        Bench b = meter("TRIG:SOUR TIM;TIM 50;COUN 3;:INIT");
+        b.house.tick(2);
+        at(b, 2, 1);
+        b.tell(0, "TRIG:SOUR BUS");
+        at(b, 2, 1);
+        b.tell(0, "TRIG:SOUR IMM");
+        at(b, 4, 1);
+        b.tell(0, "TRIG:SOUR TIM");
+        b.house.tick(1);
+        at(b, 2, 2);
+    }
+
+    /** "TIMer: as soon as TIMER TICKS are over since the READING (4) before .. began"; "Settings count as they are when they are asked." */
+    private static void timerWhileItWaits() {
+        int[] passed = {2, 3, 49};
+        for (int n : passed) {
+            String[] told = {"TRIG:TIM " + (n + 1), "TRIG:TIM " + n, "TRIG:TIM " + (n - 1), "TRIG:TIM MIN", "TRIG:TIM? MIN"};
+            int[] layers = {2, 4, 4, 4, 2};
+            for (int k = 0; k < 5; k++) {
+                Bench b = meter("TRIG:SOUR TIM;TIM 50;COUN 2;:INIT");
+                b.house.tick(n);
+                at(b, 2, 1);
+                b.tell(0, told[k]);
+                at(b, layers[k], 1);
+            }
+        }
+        Bench b = meter("TRIG:SOUR BUS;TIM 5;COUN 2;:INIT;*TRG");
+        b.house.tick(4);
+        b.tell(0, "TRIG:SOUR TIM");
+        at(b, 2, 1);
+        b.house.tick(1);
+        at(b, 4, 1);
+        Bench c = meter("TRIG:SOUR BUS;TIM 5;COUN 2;:INIT;*TRG");
+        c.house.tick(5);
+        c.tell(0, "TRIG:SOUR TIM");
+        at(c, 4, 1);
+    }
+
+    private static void sourceInTheMidstOfAMessage() {
+        String[] waits = {"ARM", "TRIG"};
+        for (String w : waits) {
+            Bench b = meter(w + ":SOUR BUS;:INIT");
+            Bench.due("nobody waits any more", b.errorsOf(0, w + ":SOUR IMM;*TRG"), "-211");
+            at(b, 4, 0);
+            b.tell(0, "ABOR;:" + w + ":SOUR BUS;:INIT");
+            Bench.due("not IDLE", b.errorsOf(0, w + ":SOUR IMM;:INIT"), "-213");
+            at(b, 4, 0);
+            b.house.tick(1);
+            at(b, 0, 1);
+            b.tell(0, w + ":SOUR BUS;:INIT");
+            b.part(0, w + ":SOUR IMM");
+            Bench.due("the UNIT has not ended", b.house.about(0, 4), w.equals("ARM") ? 1 : 2);
+            b.part(0, ";");
+            at(b, 4, 1);
+            b.tell(0, "*OPC?");
+            Bench.due("PENDING", b.house.take(0), -4);
+            b.house.tick(1);
+            Bench.due("IDLE", b.take(0), "1\n");
+            b.tell(0, w + ":SOUR BUS;:INIT;:" + w + ":SOUR IMM;*WAI;:FETC?");
+            at(b, 4, 2);
+            b.house.tick(1);
+            Bench.due("behind *WAI", b.take(0), "9.91E37\n");
+            at(b, 0, 3);
+        }
+        Bench b = meter("ARM:SOUR BUS;:TRIG:SOUR BUS;:INIT;:ARM:SOUR IMM;:ARM:SOUR BUS");
+        at(b, 2, 0);
+        Bench c = meter("ARM:SOUR BUS;:TRIG:SOUR BUS;:INIT;:TRIG:SOUR IMM;:TRIG:SOUR BUS");
+        at(c, 1, 0);
+        Bench d = meter("ARM:SOUR BUS;:INIT");
+        Bench.due("a UNIT with an ERROR sets nothing", d.errorsOf(0, "ARM:SOUR TIM"), "-141");
+        at(d, 1, 0);
+    }
+
+    /** "CONDITION of OPERATION is looked at when what goes on at once has gone" */
+    private static void operationAsTheSourceChanges() {
+        Bench b = meter("ARM:SOUR BUS;:STAT:OPER:NTR 32767;ENAB 16;*SRE 128;:INIT;:STAT:OPER?");
+        Bench.due("EVENT as the ARM layer waits", b.take(0), "64\n");
+        Bench.due("no SERVICE yet", b.house.service(), 0);
+        b.tell(0, "ARM:SOUR IMM");
+        Bench.due("CONDITION", b.house.register(0, 0, 0), 16);
+        Bench.due("64 went, 16 came, 32 never was", b.house.register(0, 0, 3), 80);
+        Bench.due("SERVICE", b.house.service(), 1);
+        Bench c = meter("TRIG:SOUR BUS;:STAT:OPER:NTR 32767;:INIT;:STAT:OPER?");
+        Bench.due("EVENT as the TRIGGER layer waits", c.take(0), "32\n");
+        c.tell(0, "TRIG:DEL 2;SOUR IMM");
+        Bench.due("CONDITION", c.house.register(0, 0, 0), 0);
+        Bench.due("32 went", c.house.register(0, 0, 3), 32);
+    }
+
+    /** "DELAY TICKS (3); the READING (4) is APERTURE TICKS long": they are asked as they begin. */
+    private static void whatDoesNotWait() {
+        Bench b = meter("TRIG:DEL 3;:INIT");
+        b.house.tick(1);
+        b.tell(0, "TRIG:DEL 0");
+        at(b, 3, 0);
+        Bench c = meter("APER 3;:INIT");
+        c.house.tick(1);
+        c.tell(0, "APER 1");
+        at(c, 4, 0);
+        Bench d = meter("TRIG:COUN 2;SOUR BUS;:INIT;*TRG");
+        d.house.tick(1);
+        d.tell(0, "TRIG:COUN 1");
+        at(d, 2, 1);
+        Bench e = meter("ARM:SOUR BUS;:TRIG:SOUR BUS");
+        e.tell(0, "ARM:SOUR IMM;:TRIG:SOUR IMM");
+        at(e, 0, 0);
     }
 
     /** ":INITiate .. IDLE: INITIATED; else -213" */
